@@ -753,6 +753,8 @@ public final class LeastRows {
     /** Cuts the weights into parts at least cost. */
     private static final class Cutter {
         private static final int COUNTS = MOST_WEIGHTS + 1;
+        // 10 weights of 99 in one part cost less than a million.
+        private static final int FAR_TOO_DEAR = 1000000000;
 
         private final State state;
         // Both are told for a number of parts and a number of first weights.
@@ -801,7 +803,7 @@ public final class LeastRows {
 
         void tryAllCuts() {
             for (int parts = 1; parts <= state.weightCount; parts++) {
-                setIn(tried, parts, Integer.MAX_VALUE);
+                setIn(tried, parts, FAR_TOO_DEAR);
             }
             tryNextPart(this, 1, 0, 0);
         }
@@ -812,7 +814,7 @@ public final class LeastRows {
 
         // Only a cheaper cut takes the place of one further left: so the last cut is the leftmost.
         private void planLastCut(int parts, int first) {
-            int best = Integer.MAX_VALUE;
+            int best = FAR_TOO_DEAR;
             int bestCut = 0;
             int mostAhead = parts == 1 ? 0 : first - 1;
             for (int ahead = parts - 1; ahead <= mostAhead; ahead++) {

@@ -240,6 +240,11 @@ public final class PromisesTest {
         Check.equal("8: undone", x.count(2), 2);
         x.undo();
         Check.equal("8: undone", x.weight(2), 7);
+        x.unweigh();
+        x.weigh(9);
+        x.undo();
+        x.undo();
+        Check.equal("8: undone behind another weight", x.weight(2), 7);
     }
 
     private static void append() {
@@ -497,6 +502,13 @@ public final class PromisesTest {
         // The row 1 with the columns 1 and 2: 2 looks, then 1; the row 0: both columns.
         Check.equal("18: throwing out", z.looks(2), 2 + 2 + 2 + 1 + 2);
         Check.equal("18: halves", z.looks(1), 3 + 2);
+        x.size(8, 9);
+        x.points(0, 9, 0, 9);
+        Check.equal("18: halves", x.looks(1), 34);
+        Check.equal("18: throwing out", x.looks(2), 65);
+        x.points(10, 2, 0, 9);
+        Check.equal("18: halves", x.looks(1), 38);
+        Check.equal("18: throwing out", x.looks(2), 51);
         LeastRows y = table("2,1/0,0");
         Check.equal("18: with a witness", y.looks(0), 4);
         Check.equal("18: with a witness", y.looks(1), -1);
@@ -678,6 +690,13 @@ public final class PromisesTest {
         LeastRows one = table("0");
         Check.equal("27: digest of one cell", one.digest(), hash(1, 1, 1, 1, 0, 0, 0, 0, 1, 0, 0, 0, 0, 1, 1, 1, 2,
             -1, -1, -1, 0, 1, 1, 1, 1, Double.doubleToLongBits(1.0), 0, 0, 0));
+        LeastRows heavy = table("0");
+        heavy.weigh(10);
+        heavy.weigh(30);
+        // 1|10|30 costs 1001: too much for the 1000 that the digest asks for.
+        Check.equal("27: fewestParts of 1000", heavy.digest(), hash(1, 1, 3, 41, 0, 0, 0, 0, 3, 0, 0, 0, 0, 1, 1, 1,
+            2, -1, -1, -1, 0, 1, 10, 30, 1681, 1681, 1021, 1021, 2, 1001, 1001, 1, 2, -1,
+            Double.doubleToLongBits(1.0), 0, 0, 0));
         long before = x.digest();
         Check.equal("27: nothing is changed", x.digest(), before);
         Check.equal("27: nothing is saved", x.count(8), 2);
