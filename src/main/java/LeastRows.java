@@ -313,7 +313,9 @@ public final class LeastRows {
         for (int what = 0; what <= 8; what++) {
             hash = mixed(hash, counted(what));
         }
-        hash = mixedTable(hash);
+        hash = mixedCells(hash);
+        seekByAllWays();
+        hash = mixedPlaces(hash);
         hash = mixedWeights(hash);
         hash = mixed(hash, bitsOf(halfShare()));
         hash = mixed(hash, slotZero.isFilled ? 1 : 0);
@@ -372,13 +374,17 @@ public final class LeastRows {
         return 31 * hash + value;
     }
 
-    private long mixedTable(long start) {
+    private long mixedCells(long start) {
         long hash = start;
         for (int row = 0; row < now.rows; row++) {
             for (int column = 0; column < now.columns; column++) {
                 hash = mixed(hash, now.numberAt(row, column));
             }
         }
+        return hash;
+    }
+
+    private void seekByAllWays() {
         rule.examine();
         for (int way = 0; way < WAYS; way++) {
             if (way == BY_ALL || rule.witnesses == 0) {
@@ -387,6 +393,10 @@ public final class LeastRows {
                 finder.tellNothing(way);
             }
         }
+    }
+
+    private long mixedPlaces(long start) {
+        long hash = start;
         for (int row = 0; row < now.rows; row++) {
             for (int way = 0; way < WAYS; way++) {
                 hash = mixed(hash, finder.placeBy(way, row));
