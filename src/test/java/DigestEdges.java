@@ -24,12 +24,14 @@ final class DigestEdges {
         for (int what = 0; what <= 8; what++) {
             values.add((long) x.count(what));
         }
-        for (int row = 0; row < x.count(0); row++) {
-            for (int column = 0; column < x.count(1); column++) {
+        int rows = x.count(0);
+        int columns = x.count(1);
+        for (int row = 0; row < rows; row++) {
+            for (int column = 0; column < columns; column++) {
                 values.add((long) x.cell(row, column));
             }
         }
-        for (int row = 0; row < x.count(0); row++) {
+        for (int row = 0; row < rows; row++) {
             for (int way = 0; way <= 2; way++) {
                 values.add((long) x.place(row, way));
             }
@@ -75,6 +77,7 @@ final class DigestEdges {
         return hash;
     }
 
+    /** It takes up to some 230 calls, so an object is asked twice at most. */
     private static void isDue(String what, LeastRows x, boolean isKept0, boolean isKept1, String buffer) {
         long got = x.digest();
         Check.equal("digest() of " + what, got, withoutOverflow(listed(x, isKept0, isKept1, buffer)).longValue());
@@ -140,14 +143,18 @@ final class DigestEdges {
 
     private void values() {
         edges.test("count(0) to count(8)", () -> {
-            LeastRows x = new LeastRows();
             for (int saved = 0; saved <= 7; saved++) {
+                LeastRows x = new LeastRows();
+                for (int i = 0; i < saved; i++) {
+                    x.size(4, 4);
+                }
                 isDue(saved + " calls saved", x, false, false, "");
-                x.size(4, 4);
             }
-            LeastRows found = new LeastRows();
-            for (int way = 0; way <= 2; way++) {
-                found.find(way);
+            for (int last = 0; last <= 2; last++) {
+                LeastRows found = new LeastRows();
+                for (int way = 0; way <= last; way++) {
+                    found.find(way);
+                }
                 isDue("what is counted", found, false, false, "");
             }
             LeastRows mended = Made.table("1,0/0,0");
@@ -176,12 +183,12 @@ final class DigestEdges {
             isDue("a table with a witness", Made.table("5,0,5/5,0,5/5,5,0"), false, false, "");
         });
         edges.test("the weights; for each number of parts the cost with 0, then with 1, and its cuts", () -> {
-            LeastRows x = new LeastRows();
             for (int count = 1; count <= 10; count++) {
-                isDue(count + " weights", x, false, false, "");
-                if (count < 10) {
-                    x.weigh(count * 37 % 99 + 1);
+                LeastRows x = new LeastRows();
+                for (int i = 1; i < count; i++) {
+                    x.weigh(i * 37 % 99 + 1);
                 }
+                isDue(count + " weights", x, false, false, "");
             }
         });
     }
@@ -226,18 +233,14 @@ final class DigestEdges {
             Check.equal("what a snapshot holds", other.digest(), twin.digest());
         });
         edges.test("the length of the buffer and each of its character codes", () -> {
-            LeastRows x = new LeastRows();
             StringBuilder text = new StringBuilder();
             for (int length = 0; length <= 60; length++) {
-                isDue("a buffer of " + length, x, false, false, text.toString());
-                if (length < 60) {
-                    char code = (char) (length == 0 ? 33 : 126 - length);
-                    x.append(code);
-                    text.append(code);
-                }
+                isDue("a buffer of " + length, Made.typed(text.toString()), false, false, text.toString());
+                text.append((char) (length == 0 ? 33 : 126 - length));
             }
-            x.clearBuffer();
-            isDue("a cleared buffer", x, false, false, "");
+            LeastRows cleared = Made.typed("!~");
+            cleared.clearBuffer();
+            isDue("a cleared buffer", cleared, false, false, "");
             differ("the order of the characters", Made.typed("!~"), Made.typed("~!"));
         });
     }

@@ -1,6 +1,12 @@
 /** Long mixed runs of calls, each answer and each digest held against the model. */
 public final class ModelTest {
+    // What an object answers behind them is free.
+    private static final int MOST_CALLS = 512;
+    // A text of 12 characters with firstError() behind each, load(), clearBuffer(), and digest().
+    private static final int MOST_OF_STEP = 27;
+
     private static long seed = 1;
+    private static int calls = 0;
 
     private static int upTo(int most) {
         seed = seed * 6364136223846793005L + 1442695040888963407L;
@@ -40,6 +46,7 @@ public final class ModelTest {
     }
 
     private static void both(String call, Answer ours, Answer due) {
+        calls++;
         String got = told(ours);
         String want = told(due);
         Check.holds(call + " answered " + got + ", due is " + want, got.equals(want));
@@ -62,9 +69,13 @@ public final class ModelTest {
         LeastRows x = new LeastRows();
         Model m = new Model();
         seed = 1000 + run;
-        for (int i = 0; i < 250; i++) {
-            step("run " + run + ", call " + i + ": ", x, m);
-            both("run " + run + ", call " + i + ": digest()", x::digest, m::digest);
+        calls = 0;
+        while (calls <= MOST_CALLS - MOST_OF_STEP) {
+            step("run " + run + ", behind " + calls + " calls: ", x, m);
+            both("run " + run + ", behind " + calls + " calls: digest()", x::digest, m::digest);
+        }
+        while (calls < MOST_CALLS) {
+            both("run " + run + ", behind " + calls + " calls: undo()", x::undo, m::undo);
         }
     }
 
@@ -213,7 +224,7 @@ public final class ModelTest {
         LeastRows x = new LeastRows();
         Model m = new Model();
         seed = 2000 + run;
-        for (int i = 0; i < 8; i++) {
+        for (int i = 0; i < 7; i++) {
             String text = someText();
             String at = "text run " + run + " \"" + text + "\": ";
             for (int k = 0; k < text.length(); k++) {
